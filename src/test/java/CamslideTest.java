@@ -222,6 +222,7 @@ public final class CamslideTest {
         is(8, "rise 101", RANGE, () -> x.lay(0, 0, 0, 101, 0));
         is(8, "dwell -1", RANGE, () -> x.lay(0, 0, 0, 2, -1));
         is(8, "dwell 100", RANGE, () -> x.lay(0, 0, 0, 2, 100));
+        is(8, "begin 99 does not end", UNSUPPORTED, () -> x.lay(0, 0, 99, 2, 0));
         is(8, "too steep", UNSUPPORTED, () -> x.lay(0, 0, 0, 1, 0));
         is(8, "rise 100 does not end", UNSUPPORTED, () -> x.lay(0, 0, 0, 100, 0));
         is(8, "dwell 99 does not end", UNSUPPORTED, () -> x.lay(0, 0, 0, 2, 99));
@@ -240,6 +241,12 @@ public final class CamslideTest {
         is(7, "a return of forty", 42, () -> x.lay(0, 0, 0, 2, 0));
         is(7, "range", RANGE, () -> x.setLimits(50, 100));
         is(7, "range changes nothing", 39, () -> x.setLimits(99, 99));
+        is(7, "greatest", 99, () -> x.setLimits(1, 1));
+        is(7, "least", 1, () -> x.setLimits(20, 40));
+        Camslide y = withOperations(0);
+        y.operation(0, 't', 6, 41, 10, 1000, 0);
+        is(7, "40 back at first", 10, () -> y.lay(0, 0, 0, 9, 0));
+        is(7, "41 take two", 11, () -> y.lay(0, 1, 0, 9, 0));
     }
 
     private static void advances() {
@@ -500,6 +507,8 @@ public final class CamslideTest {
         is(21, "rounded up", 14, () -> x.camRise(0, 1));
         is(21, "the other lever", 40, () -> x.camRise(0, 0));
         is(20, "4", 1, () -> x.setRatio(0, 4));
+        is(20, "back to 1", 4, () -> x.setRatio(0, 1));
+        is(20, "and on", 1, () -> x.setRatio(0, 4));
         is(21, "ratio 4", 10, () -> x.camRise(0, 0));
     }
 
@@ -621,7 +630,9 @@ public final class CamslideTest {
         x.stop(true);
         is(28, "cold behind a stop", 20, () -> x.error(7));
         x.stop(false);
-        x.run(0, 5);
+        x.run(0, 4);
+        is(28, "still cold", 20, () -> x.error(7));
+        x.run(0, 1);
         is(28, "warms anew", 19, () -> x.error(7));
     }
 
