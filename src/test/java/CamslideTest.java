@@ -1,35 +1,5 @@
-import java.util.NoSuchElementException;
-
 /** For each promise of the document: ordinary inputs, the edges that it names, and wrong inputs. */
-public final class CamslideTest {
-    private static final Class<?> RANGE = IllegalArgumentException.class;
-    private static final Class<?> STATE = IllegalStateException.class;
-    private static final Class<?> INDEX = IndexOutOfBoundsException.class;
-    private static final Class<?> UNSUPPORTED = UnsupportedOperationException.class;
-    private static final Class<?> MISSING = NoSuchElementException.class;
-    private static final Class<?> ARITHMETIC = ArithmeticException.class;
-
-    private static int wrong = 0;
-    private static int asked = 0;
-
-    private interface Call {
-        Object answer();
-    }
-
-    private static void is(int promise, String what, Object due, Call call) {
-        asked++;
-        Object got;
-        try {
-            got = call.answer();
-        } catch (RuntimeException e) {
-            got = e.getClass();
-        }
-        if (!due.equals(got)) {
-            wrong++;
-            System.out.println("promise " + promise + ": " + what + " answered " + got + ", due is " + due);
-        }
-    }
-
+public final class CamslideTest extends Check {
     public static void main(String[] args) {
         newObject();
         parts();
@@ -65,28 +35,7 @@ public final class CamslideTest {
         checksums();
         figures();
         soundness();
-        System.out.println(wrong == 0 ? asked + " answers are as due" : wrong + " answers are not as due");
-        if (wrong != 0) {
-            System.exit(1);
-        }
-    }
-
-    /** A part 0 of diameter 60 and length 380, made by one forming tool at 6 that is laid; its cycle is 600. */
-    private static Camslide formed() {
-        Camslide x = new Camslide();
-        x.part(60, 380);
-        x.operation(0, 'f', 6, 100, 10, 1000, 1);
-        x.lay(0, 0, 0, 10, 0);
-        return x;
-    }
-
-    private static Camslide withOperations(int... positions) {
-        Camslide x = new Camslide();
-        x.part(60, 100);
-        for (int position : positions) {
-            x.operation(0, 't', position, 40, 10, 1000, 0);
-        }
-        return x;
+        close();
     }
 
     private static void newObject() {
@@ -178,7 +127,7 @@ public final class CamslideTest {
         is(4, "travel 1 ahead of state", UNSUPPORTED, () -> x.halve(0, 4));
         is(4, "ten operations", STATE, () -> x.halve(0, 5));
         is(4, "travel stays", 2, () -> x.travel(0, 5));
-        Camslide y = withOperations();
+        Camslide y = Works.withOperations();
         y.operation(0, 't', 0, 2, 10, 1000, 0);
         is(4, "travel 2", 1, () -> y.halve(0, 0));
         is(4, "half of 2", 1, () -> y.travel(0, 0));
@@ -209,7 +158,7 @@ public final class CamslideTest {
     }
 
     private static void limitsAndLaying() {
-        Camslide x = withOperations(0);
+        Camslide x = Works.withOperations(0);
         is(7, "rise 0", RANGE, () -> x.setLimits(0, 1));
         is(7, "rise 100", RANGE, () -> x.setLimits(100, 1));
         is(7, "back 0", RANGE, () -> x.setLimits(1, 0));
@@ -243,7 +192,7 @@ public final class CamslideTest {
         is(7, "range changes nothing", 39, () -> x.setLimits(99, 99));
         is(7, "greatest", 99, () -> x.setLimits(1, 1));
         is(7, "least", 1, () -> x.setLimits(20, 40));
-        Camslide y = withOperations(0);
+        Camslide y = Works.withOperations(0);
         y.operation(0, 't', 6, 41, 10, 1000, 0);
         is(7, "40 back at first", 10, () -> y.lay(0, 0, 0, 9, 0));
         is(7, "41 take two", 11, () -> y.lay(0, 1, 0, 9, 0));
@@ -302,7 +251,7 @@ public final class CamslideTest {
     }
 
     private static void turning() {
-        Camslide x = withOperations(0, 3, 3, 0);
+        Camslide x = Works.withOperations(0, 3, 3, 0);
         x.lay(0, 0, 0, 9, 0);
         x.lay(0, 1, 15, 9, 0);
         is(10, "turned by six hundredths", 1, () -> x.collisions(0));
@@ -316,33 +265,33 @@ public final class CamslideTest {
         x.lay(0, 3, 42, 9, 0);
         is(10, "in time again", 0, () -> x.collisions(0));
 
-        Camslide back = withOperations(1, 0);
+        Camslide back = Works.withOperations(1, 0);
         back.lay(0, 0, 0, 9, 0);
         back.lay(0, 1, 19, 9, 0);
         is(10, "back by one is on by five", 1, () -> back.collisions(0));
         back.lay(0, 1, 20, 9, 0);
         is(10, "ten behind", 0, () -> back.collisions(0));
 
-        Camslide overlapping = withOperations(0, 5, 1);
+        Camslide overlapping = Works.withOperations(0, 5, 1);
         overlapping.lay(0, 0, 0, 30, 0);
         overlapping.lay(0, 1, 5, 2, 0);
         overlapping.lay(0, 2, 31, 9, 0);
         is(10, "the one ahead begins last, not ends last", 3, () -> overlapping.collisions(0));
 
-        Camslide slide = withOperations(0, 6, 5);
+        Camslide slide = Works.withOperations(0, 6, 5);
         slide.lay(0, 0, 0, 9, 0);
         slide.lay(0, 1, 10, 9, 0);
         slide.lay(0, 2, 20, 9, 0);
         is(10, "slides do not turn", 0, () -> slide.collisions(0));
 
-        Camslide unlaid = withOperations(0, 0, 5);
+        Camslide unlaid = Works.withOperations(0, 0, 5);
         unlaid.lay(0, 0, 0, 9, 0);
         unlaid.lay(0, 1, 10, 9, 0);
         unlaid.halve(0, 1);
         unlaid.lay(0, 2, 20, 9, 0);
         is(10, "what is not laid is not ahead", 0, () -> unlaid.collisions(0));
 
-        Camslide atOnce = withOperations(0, 4, 5);
+        Camslide atOnce = Works.withOperations(0, 4, 5);
         atOnce.lay(0, 0, 0, 9, 0);
         atOnce.lay(0, 1, 0, 9, 0);
         atOnce.lay(0, 2, 12, 9, 0);
@@ -350,7 +299,7 @@ public final class CamslideTest {
     }
 
     private static void pressing() {
-        Camslide x = withOperations(0, 6, 2, 8, 6);
+        Camslide x = Works.withOperations(0, 6, 2, 8, 6);
         is(12, "no part", INDEX, () -> x.press(1));
         is(12, "nothing laid", 0, () -> x.press(0));
         x.lay(0, 0, 50, 9, 0);
@@ -396,7 +345,7 @@ public final class CamslideTest {
         is(12, "into the gap", 17, () -> gap.press(0));
         is(12, "gap is used", 5, () -> gap.begins(0, 3));
 
-        Camslide late = withOperations(1, 0);
+        Camslide late = Works.withOperations(1, 0);
         late.lay(0, 0, 1, 49, 0);
         late.lay(0, 1, 2, 49, 0);
         is(12, "would not end in time", UNSUPPORTED, () -> late.press(0));
@@ -407,7 +356,7 @@ public final class CamslideTest {
     }
 
     private static void begins() {
-        Camslide x = withOperations(0);
+        Camslide x = Works.withOperations(0);
         is(13, "no part", INDEX, () -> x.begins(1, 0));
         is(13, "no operation", INDEX, () -> x.begins(0, 1));
         is(13, "not laid", MISSING, () -> x.begins(0, 0));
@@ -491,7 +440,7 @@ public final class CamslideTest {
     }
 
     private static void camRises() {
-        Camslide x = withOperations(0, 8);
+        Camslide x = Works.withOperations(0, 8);
         is(20, "position -1", INDEX, () -> x.setRatio(-1, 9));
         is(20, "position 9", INDEX, () -> x.setRatio(9, 1));
         is(20, "ratio 0", RANGE, () -> x.setRatio(0, 0));
@@ -513,7 +462,7 @@ public final class CamslideTest {
     }
 
     private static void camsServing() {
-        Camslide x = withOperations(0, 1);
+        Camslide x = Works.withOperations(0, 1);
         is(22, "no part", INDEX, () -> x.camFor(1, 0));
         is(22, "no operation", INDEX, () -> x.camFor(0, 2));
         is(22, "not laid", MISSING, () -> x.camFor(0, 0));
@@ -579,7 +528,7 @@ public final class CamslideTest {
     }
 
     private static void barsBrought() {
-        Camslide x = formed();
+        Camslide x = Works.formed();
         is(25, "diameter 19", RANGE, () -> x.bring(19, 1, 1000));
         is(25, "diameter 401", RANGE, () -> x.bring(401, 1, 1000));
         is(25, "bars 0", RANGE, () -> x.bring(20, 0, 1000));
@@ -616,7 +565,7 @@ public final class CamslideTest {
     }
 
     private static void stops() {
-        Camslide x = formed();
+        Camslide x = Works.formed();
         x.bring(60, 99, 40000);
         is(28, "goes at first", false, () -> x.stop(true));
         is(28, "stopped", true, () -> x.stop(true));
@@ -637,7 +586,7 @@ public final class CamslideTest {
     }
 
     private static void runs() {
-        Camslide x = formed();
+        Camslide x = Works.formed();
         x.part(80, 100);
         is(29, "no part", INDEX, () -> x.run(2, 0));
         is(29, "pieces 0", RANGE, () -> x.run(0, 0));
@@ -668,7 +617,7 @@ public final class CamslideTest {
     }
 
     private static void beginning() {
-        Camslide x = formed();
+        Camslide x = Works.formed();
         x.part(60, 380);
         x.part(80, 100);
         for (int i = 1; i < 3; i++) {
@@ -696,7 +645,7 @@ public final class CamslideTest {
     }
 
     private static void wearAndHeat() {
-        Camslide x = formed();
+        Camslide x = Works.formed();
         x.operation(0, 't', 6, 10, 10, 1000, 0);
         x.lay(0, 1, 50, 1, 0);
         x.bring(60, 99, 40000);
@@ -748,7 +697,7 @@ public final class CamslideTest {
     }
 
     private static void grinding() {
-        Camslide x = formed();
+        Camslide x = Works.formed();
         x.operation(0, 't', 7, 10, 10, 1000, 0);
         x.lay(0, 1, 0, 1, 0);
         is(33, "position 9", INDEX, () -> x.grind(9));
@@ -773,7 +722,7 @@ public final class CamslideTest {
     }
 
     private static void tolerances() {
-        Camslide x = formed();
+        Camslide x = Works.formed();
         is(34, "no part", INDEX, () -> x.setTolerance(1, 0, 0));
         is(34, "no operation", INDEX, () -> x.setTolerance(0, 1, 0));
         is(34, "tolerance 0", RANGE, () -> x.setTolerance(0, 0, 0));
@@ -804,7 +753,7 @@ public final class CamslideTest {
     }
 
     private static void lots() {
-        Camslide x = formed();
+        Camslide x = Works.formed();
         is(37, "no part", INDEX, () -> x.isAccepted(1, 0, 0));
         is(37, "sample 0", RANGE, () -> x.isAccepted(0, 0, 0));
         is(37, "sample 1000", RANGE, () -> x.isAccepted(0, 1000, 0));
@@ -903,7 +852,7 @@ public final class CamslideTest {
     }
 
     private static void plansByCycle() {
-        Camslide x = withOperations(6);
+        Camslide x = Works.withOperations(6);
         x.lay(0, 0, 0, 7, 0);
         x.order(0, 1);
         is(40, "rounded up", 1804L, () -> x.ends(0));
@@ -944,7 +893,7 @@ public final class CamslideTest {
     }
 
     private static void paying() {
-        Camslide x = withOperations();
+        Camslide x = Works.withOperations();
         is(42, "no part", INDEX, () -> x.paysFrom(1));
         is(42, "no cycle", MISSING, () -> x.paysFrom(0));
         x.operation(0, 't', 6, 100, 10, 1000, 0);
@@ -983,7 +932,7 @@ public final class CamslideTest {
     }
 
     private static void figures() {
-        Camslide x = formed();
+        Camslide x = Works.formed();
         is(44, "none", ARITHMETIC, () -> x.goodShare());
         is(45, "none", ARITHMETIC, () -> x.meanRadius());
         x.bring(60, 9, 2600);
@@ -1005,7 +954,7 @@ public final class CamslideTest {
     private static void soundness() {
         Camslide x = new Camslide();
         is(46, "new", true, () -> x.isSound());
-        Camslide y = formed();
+        Camslide y = Works.formed();
         y.lay(0, 0, 87, 10, 0);
         y.cam(1000);
         y.cutCam(0, 0, 0);
