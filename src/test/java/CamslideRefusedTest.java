@@ -44,7 +44,7 @@ public final class CamslideRefusedTest extends Twins {
         bounds(2, "length", RANGE, 10, 4, 999, 4, Works::busy, (x, n) -> x.part(60, n));
         bounds(2, "diameter of the first", RANGE, 20, 0, 400, 0, Works::fresh, (x, n) -> x.part(n, 100));
         is(2, "the fifth", 4, () -> Works.nearlyFull().part(60, 100));
-        refused(2, "the sixth", STATE, Works::full, x -> x.part(60, 100));
+        refused(2, "the sixth", STATE, Works::full, x -> x.part(70, 100));
         refused(2, "diameter ahead of full", RANGE, Works::full, x -> x.part(401, 100));
         refused(2, "length ahead of full", RANGE, Works::full, x -> x.part(60, 9));
     }
@@ -262,6 +262,7 @@ public final class CamslideRefusedTest extends Twins {
         refused(29, "one not laid", UNSUPPORTED, Works::busy, x -> x.run(1, 1));
         refused(29, "no operations", UNSUPPORTED, Works::busy, x -> x.run(2, 1));
         refused(29, "colliding", UNSUPPORTED, Works::colliding, x -> x.run(0, 1));
+        refused(29, "no cycle any more", UNSUPPORTED, Works::halvedBehindItsRun, x -> x.run(3, 1));
         refused(29, "part ahead of range", INDEX, Works::busy, x -> x.run(4, 0));
         refused(29, "part ahead of stopped", INDEX, Works::busyAndStopped, x -> x.run(-1, 1));
         refused(29, "part ahead of all", INDEX, Works::busyAndStopped, x -> x.run(4, 1000));

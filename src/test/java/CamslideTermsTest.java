@@ -48,6 +48,7 @@ public final class CamslideTermsTest extends Check {
         paying();
         checksums();
         shares();
+        soundness();
         lastCall();
         close();
     }
@@ -82,6 +83,8 @@ public final class CamslideTermsTest extends Check {
         is(6, "9000 by 3000", 3, () -> time('h', 1, 1, 3000));
         is(6, "9000 by 3001", 3, () -> time('h', 1, 1, 3001));
         is(6, "9000 by 2999", 4, () -> time('h', 1, 1, 2999));
+        is(6, "9000 times 999 by 100", 89910, () -> time('h', 999, 1, 100));
+        is(6, "6000 times 999 by 100", 59940, () -> time('t', 999, 1, 100));
         is(6, "11 by 10 are two turns in threading", 6, () -> time('h', 11, 10, 3000));
         for (char kind : "tdkfc".toCharArray()) {
             is(6, "does not go back: " + kind, 2, () -> time(kind, 1, 1, 3000));
@@ -366,11 +369,21 @@ public final class CamslideTermsTest extends Check {
         is(12, "one not laid", 20, () -> x.press(0));
         is(12, "it is not laid then", MISSING, () -> x.begins(0, 1));
         is(12, "the others close up", 0, () -> x.begins(0, 2));
-        is(12, "a single one", 10, () -> onlyOne().press(0));
+        is(12, "a single one", 10, () -> onlyOneAt(5).press(0));
+
+        Camslide backward = Works.withOperations(0, 0, 0, 0, 0);
+        for (int i = 0; i < 5; i++) {
+            backward.lay(0, i, 80 - 15 * i, 9, 0);
+        }
+        is(12, "the higher the number, the earlier", 50, () -> backward.press(0));
+        for (int i = 0; i < 5; i++) {
+            int number = i;
+            is(12, "backward " + i, 40 - 10 * i, () -> backward.begins(0, number));
+        }
     }
 
-    private static Camslide onlyOne() {
-        Camslide x = Works.withOperations(5);
+    private static Camslide onlyOneAt(int position) {
+        Camslide x = Works.withOperations(position);
         x.lay(0, 0, 90, 9, 0);
         return x;
     }
@@ -433,14 +446,9 @@ public final class CamslideTermsTest extends Check {
         is(12, "turned by one", 12, () -> room.begins(0, 1));
         is(12, "a slide from 0 on", 0, () -> room.begins(0, 2));
         is(12, "from the first without the room", 31, () -> room.begins(0, 3));
-        is(12, "the first of the turret from 0 on", 0, () -> onlyOneAt(5));
-    }
-
-    private static int onlyOneAt(int position) {
-        Camslide x = Works.withOperations(position);
-        x.lay(0, 0, 60, 9, 0);
-        x.press(0);
-        return x.begins(0, 0);
+        Camslide first = onlyOneAt(5);
+        first.press(0);
+        is(12, "the first of the turret from 0 on, wherever it stood", 0, () -> first.begins(0, 0));
     }
 
     private static void pressingToTheEnd() {
@@ -928,6 +936,7 @@ public final class CamslideTermsTest extends Check {
             x.correct(6, 200);
         }
         x.run(0, 2);
+        is(37, "of fewer pieces", true, () -> x.isAccepted(0, 1, 0));
         is(37, "the last run alone", true, () -> x.isAccepted(0, 999, 0));
         is(36, "bad ones of all runs", 1002, () -> x.bad(0));
         is(35, "good ones of all runs", 4, () -> x.good(0));
@@ -945,29 +954,15 @@ public final class CamslideTermsTest extends Check {
         is(37, "the last run that made some", false, () -> few.isAccepted(0, 9, 4));
         is(37, "all five are bad", true, () -> few.isAccepted(0, 9, 5));
         few.bring(60, 1, 2600);
+        few.run(1, 1);
+        is(37, "a lot of one piece", true, () -> few.isAccepted(1, 999, 0));
         few.run(1, 9);
         is(37, "another part has its own lot", true, () -> few.isAccepted(1, 9, 0));
         is(37, "and leaves that of the first", false, () -> few.isAccepted(0, 9, 4));
     }
 
-    /** Parts 0 and 1 of one diameter, 2 of another, with cycles of 300 each. */
-    private static Camslide planned(int... orders) {
-        Camslide x = new Camslide();
-        x.part(60, 100);
-        x.part(60, 200);
-        x.part(80, 100);
-        for (int i = 0; i < 3; i++) {
-            x.operation(i, 't', 6, 100, 10, 1000, 0);
-            x.lay(i, 0, 0, 20, 0);
-        }
-        for (int i = 0; i + 1 < orders.length; i += 2) {
-            x.order(orders[i], orders[i + 1]);
-        }
-        return x;
-    }
-
     private static void plan(String what, int order, int machine, long end, int... orders) {
-        Camslide x = planned(orders);
+        Camslide x = Works.planned(orders);
         is(39, what, machine, () -> x.machineOf(order));
         is(40, what, end, () -> x.ends(order));
     }
@@ -986,6 +981,8 @@ public final class CamslideTermsTest extends Check {
         plan("nothing on 0 ends later", 1, 1, 3603, 0, 601, 0, 1);
         plan("two without orders, the lowest", 1, 1, 3603, 0, 9999, 2, 1);
         plan("the third machine", 2, 2, 5403, 0, 9999, 2, 9999, 1, 1);
+        // Machine 0 is free at 31797, 1 at 33597 and 2 at 35397; a fourth one would be set from 5400 on.
+        plan("no fourth machine", 3, 0, 31800, 0, 9999, 2, 9999, 1, 9999, 0, 1);
         plan("the most pieces", 0, 0, 1800 + 29997, 0, 9999);
     }
 
@@ -1013,6 +1010,9 @@ public final class CamslideTermsTest extends Check {
         is(40, "hundredths are kept until the end", 1807L, () -> x.ends(1));
         x.order(0, 1);
         is(40, "one more, and rounded up", 1808L, () -> x.ends(2));
+        Camslide one = Works.single('t', 6, 10, 99);
+        one.order(0, 43);
+        is(40, "one hundredth more, and rounded up", 1804L, () -> one.ends(0));
     }
 
     private static Object chips(int diameter, int travel, int operations) {
@@ -1080,6 +1080,17 @@ public final class CamslideTermsTest extends Check {
         is(45, "one", 1000.0, () -> bad.meanRadius());
         bad.cam(1001);
         is(45, "two", 1000.5, () -> bad.meanRadius());
+    }
+
+    private static void soundness() {
+        is(46, "new", true, () -> Works.fresh().isSound());
+        is(46, "busy", true, () -> Works.busy().isSound());
+        is(46, "stopped", true, () -> Works.busyAndStopped().isSound());
+        is(46, "full, with a face of 300", true, () -> Works.full().isSound());
+        is(46, "colliding, and laid until 99", true, () -> Works.colliding().isSound());
+        Camslide thin = Works.withCam(1001);
+        thin.cutCam(0, 0, 0);
+        is(46, "with a cam of 800", true, () -> thin.isSound());
     }
 
     private static void lastCall() {

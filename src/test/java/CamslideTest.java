@@ -799,21 +799,8 @@ public final class CamslideTest extends Check {
         is(40, "no cycle", MISSING, () -> x.ends(7));
     }
 
-    /** Parts 0 and 1 of one diameter, 2 of another, with cycles of 300 each. */
-    private static Camslide planned() {
-        Camslide x = new Camslide();
-        x.part(60, 100);
-        x.part(60, 200);
-        x.part(80, 100);
-        for (int i = 0; i < 3; i++) {
-            x.operation(i, 't', 6, 100, 10, 1000, 0);
-            x.lay(i, 0, 0, 20, 0);
-        }
-        return x;
-    }
-
     private static void plans() {
-        Camslide x = planned();
+        Camslide x = Works.planned();
         x.order(0, 1000);
         x.order(1, 10);
         x.order(1, 800);
@@ -865,7 +852,7 @@ public final class CamslideTest extends Check {
         slow.lay(0, 0, 0, 1, 0);
         slow.order(0, 9999);
         is(40, "very long", 1800L + 9999L * 8910, () -> slow.ends(0));
-        Camslide equal = planned();
+        Camslide equal = Works.planned();
         equal.order(0, 600);
         equal.order(1, 9);
         equal.order(2, 9);

@@ -85,8 +85,9 @@ abstract class Twins extends Check {
                 ask(row, () -> x.time(part, operation));
                 ask(row, () -> x.begins(part, operation));
                 ask(row, () -> x.advance(part, operation, 8));
-                ask(row, () -> x.camRise(part, operation));
-                ask(row, () -> x.camFor(part, operation));
+                // The last hundredth of most that the makers lay, and the one behind it, tell the return.
+                ask(row, () -> x.advance(part, operation, 13));
+                ask(row, () -> x.advance(part, operation, 14));
             }
             ask(row, () -> x.collisions(part));
             ask(row, () -> x.collisionAt(part, 0));
@@ -134,6 +135,8 @@ abstract class Twins extends Check {
         askErrors(row, x);
         for (int i = 0; i < POSITIONS; i++) {
             int position = i;
+            // Without an operation that forms its face can't be seen.
+            ask(row, () -> x.operation(2, 'f', position, 1, 1, 1000, 0));
             for (int j = 0; j < 8; j++) {
                 ask(row, () -> x.grind(position));
             }
@@ -147,17 +150,24 @@ abstract class Twins extends Check {
                 ask(row, () -> x.station(part, operation, 0));
             }
         }
-        for (int i = 0; i <= 8; i++) {
-            int order = i;
-            ask(row, () -> x.machineOf(order));
-            ask(row, () -> x.ends(order));
-        }
+        askPlan(row, x);
+        // Parts without a cycle hide what was ordered of them.
+        ask(row, () -> x.lay(1, 0, 80, 9, 0));
+        askPlan(row, x);
         for (int i = 0; i <= 12; i++) {
             int cam = i;
             ask(row, () -> x.radius(cam));
         }
         ask(row, () -> x.meanRadius());
         ask(row, () -> x.setLimits(20, 40));
+    }
+
+    private static void askPlan(List<Object> row, Camslide x) {
+        for (int i = 0; i <= 8; i++) {
+            int order = i;
+            ask(row, () -> x.machineOf(order));
+            ask(row, () -> x.ends(order));
+        }
     }
 
     private static void askErrors(List<Object> row, Camslide x) {
@@ -168,6 +178,14 @@ abstract class Twins extends Check {
     }
 
     private static void askGrowth(List<Object> row, Camslide x) {
+        for (int i = 0; i < PARTS; i++) {
+            int part = i;
+            for (int j = 0; j < OPERATIONS; j++) {
+                int operation = j;
+                ask(row, () -> x.camRise(part, operation));
+                ask(row, () -> x.camFor(part, operation));
+            }
+        }
         for (int i = 0; i <= 12; i++) {
             int cam = i;
             for (int j = 0; j < 3; j++) {

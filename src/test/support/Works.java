@@ -83,6 +83,13 @@ final class Works {
         return x;
     }
 
+    /** As busy, but that part 3, of which there is a lot, has no cycle any more. */
+    static Camslide halvedBehindItsRun() {
+        Camslide x = busy();
+        x.halve(3, 0);
+        return x;
+    }
+
     /** All that can be full is: parts, operations of part 0, cams, orders, bars of 60; the tool at 6 is ground down. */
     static Camslide full() {
         Camslide x = new Camslide();
@@ -187,6 +194,22 @@ final class Works {
         x.order(0, 5);
         x.order(1, 5);
         x.order(0, 5);
+        return x;
+    }
+
+    /** Parts 0 and 1 of one diameter, 2 of another, with cycles of 300 each, and orders: a part, its pieces and so on. */
+    static Camslide planned(int... orders) {
+        Camslide x = new Camslide();
+        x.part(60, 100);
+        x.part(60, 200);
+        x.part(80, 100);
+        for (int i = 0; i < 3; i++) {
+            x.operation(i, 't', 6, 100, 10, 1000, 0);
+            x.lay(i, 0, 0, 20, 0);
+        }
+        for (int i = 0; i + 1 < orders.length; i += 2) {
+            x.order(orders[i], orders[i + 1]);
+        }
         return x;
     }
 }
