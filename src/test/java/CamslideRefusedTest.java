@@ -166,7 +166,8 @@ public final class CamslideRefusedTest extends Twins {
         missing(12, "part", 0, Works::fresh, (x, n) -> x.press(n));
         missing(12, "part", 4, Works::busy, (x, n) -> x.press(n));
         refused(12, "one of the slides would not end in time", UNSUPPORTED, Works::colliding, x -> x.press(0));
-        refused(12, "one of the turret would not, those ahead of it would", UNSUPPORTED, Works::crowded, x -> x.press(0));
+        refused(12, "one of the turret would not, those ahead of it would", UNSUPPORTED, Works::crowded,
+                x -> x.press(0));
         missing(13, "part", 4, Works::busy, (x, n) -> x.begins(n, 0));
         missing(13, "operation", 3, Works::busy, (x, n) -> x.begins(0, n));
         refused(13, "not laid", MISSING, Works::busy, x -> x.begins(1, 0));
